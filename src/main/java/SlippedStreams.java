@@ -405,15 +405,16 @@ public final class SlippedStreams {
             know(s, value);
         }
 
-        /** False when no store misses its value; then nothing is changed. */
+        /**
+         * Only the first store can be the first that misses its value: with one it would have left.
+         * False when there is none; then nothing is changed.
+         */
         boolean give(int value) {
-            for (int k = 0; k < size; k++) {
-                if (!known[slot(k)]) {
-                    know(slot(k), value);
-                    return true;
-                }
+            if (size == 0) {
+                return false;
             }
-            return false;
+            know(first, value);
+            return true;
         }
 
         private void know(int s, int value) {
@@ -713,7 +714,9 @@ public final class SlippedStreams {
                 return sendLoad(i);
             }
             if (isAtOutcome()) {
-                return follow(i);
+                boolean moved = followOutcome(i, link.addressOutcomes);
+                handed = handed && !moved;
+                return moved;
             }
             if (!link.passed.hasRoomFor(program.passedCounts[i])) {
                 return false;
@@ -734,14 +737,6 @@ public final class SlippedStreams {
             }
             link.loads.put(link.memory[word]);
             return leaveFor(i + 1);
-        }
-
-        private boolean follow(int i) {
-            if (!followOutcome(i, link.addressOutcomes)) {
-                return false;
-            }
-            handed = false;
-            return true;
         }
 
         private void hand(int r) {

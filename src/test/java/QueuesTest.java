@@ -20,6 +20,8 @@ public final class QueuesTest {
         listTakesFromStoredValues();
         valueGoesToTheFirstThatMissesIt();
         loadsWaitForTheSameAddress();
+        listIsUsedAgainAndAgain();
+        allAreEmptyAfterReset();
         CHECK.end();
     }
 
@@ -357,6 +359,51 @@ public final class QueuesTest {
             }
             x.value(50);
             due("same output", x.output(0, false), -2);
+        }
+    }
+
+    /** More stores go through the list than it has places, each one missing its value at first. */
+    private static void listIsUsedAgainAndAgain() {
+        SlippedStreams x = new SlippedStreams();
+        for (int i = 0; i < 10; i++) {
+            CHECK.addAll(x, Check.in(Check.SET, 1, 0, 20 + i), Check.in(Check.STORE, 1, 0, i));
+        }
+        for (int i = 0; i < 10; i += 2) {
+            due("again address " + i, x.address(2), 2);
+            due("again missing " + i, x.queue(Check.LIST), 2);
+            due("again not written " + i, x.peek(i, false), 0);
+            due("again value " + i, x.value(2), 2);
+            due("again written " + i, x.peek(i, false), 20 + i);
+            due("again one missing " + i, x.queue(Check.LIST), 1);
+            due("again next value " + i, x.value(2), 2);
+            due("again next written " + i, x.peek(i + 1, false), 21 + i);
+        }
+    }
+
+    private static void allAreEmptyAfterReset() {
+        SlippedStreams x = CHECK.with(
+                Check.in(Check.LESS, 1, 1, 0),
+                Check.in(Check.STORE, 1, 0, 0),
+                Check.in(Check.STORE, 1, 0, 1),
+                Check.in(Check.LESS, 0, 0, 0),
+                Check.in(Check.LOAD, 2, 0, 5),
+                Check.in(Check.OUT, 0, 0, 0),
+                Check.in(Check.OUT, 2, 0, 0));
+        due("reset value", x.value(50), 3);
+        due("reset A", x.queue(Check.A), 1);
+        due("reset S", x.queue(Check.S), 2);
+        x.reset();
+        due("reset A is empty", x.queue(Check.A), 0);
+        due("reset S is empty", x.queue(Check.S), 0);
+        due("reset value for the branch", x.value(1), 1);
+        due("reset address", x.address(50), 6);
+        due("reset list", x.queue(Check.LIST), 2);
+        due("reset L", x.queue(Check.L), 1);
+        due("reset V", x.queue(Check.V), 1);
+        due("reset R", x.queue(Check.R), 1);
+        x.reset();
+        for (int q = 0; q <= 5; q++) {
+            due("reset queue " + q, x.queue(q), 0);
         }
     }
 }
