@@ -3,12 +3,16 @@
  * when all have ended, the streams must have come to just what the plain run came to.
  */
 public final class RandomRunsTest {
-    private static final int RUNS = 3000;
-    private static final int CALLS = 40;
+    private static final int RUNS = 12000;
+    /** The document promises nothing of later calls of one object. */
+    private static final int MOST_CALLS = 512;
+    private static final int CALLS_OF_A_LOOK = 252;
+    private static final int CALLS_OF_A_STEP = 6;
 
     private static final Check CHECK = new Check();
     private static long seed = 20261115L;
     private static int ends;
+    private static int callsLeft;
 
     public static void main(String[] args) {
         for (int run = 0; run < RUNS && CHECK.allRight(); run++) {
@@ -43,47 +47,68 @@ public final class RandomRunsTest {
     private static void againstTheModel(int run) {
         SlippedStreams x = new SlippedStreams();
         Model m = new Model();
+        callsLeft = MOST_CALLS - CALLS_OF_A_LOOK;
         load(x, m);
-        for (int call = 0; call < CALLS && CHECK.allRight(); call++) {
+        int calls = 1 + below(MOST_CALLS / CALLS_OF_A_STEP / 2);
+        for (int call = 0; call < calls && callsLeft > CALLS_OF_A_STEP && CHECK.allRight(); call++) {
             String what = "run " + run + ", call " + call;
-            int n = below(3) == 0 ? 1 + below(50) : 1 + below(4);
-            switch (below(12)) {
-                case 0:
-                case 1:
-                case 2:
-                case 3:
-                    CHECK.due(what + " address(" + n + ")", x.address(n), m.advance(0, n));
-                    break;
-                case 4:
-                case 5:
-                case 6:
-                case 7:
-                    CHECK.due(what + " value(" + n + ")", x.value(n), m.advance(1, n));
-                    break;
-                case 8:
-                case 9:
-                    CHECK.due(what + " both(" + n + ")", x.both(n), m.both(n));
-                    break;
-                case 10:
-                    CHECK.due(what + " plain(" + n + ")", x.plain(n), m.plain(n));
-                    break;
-                default:
-                    beginAnew(x, m);
-                    break;
-            }
-            compare(what, x, m);
+            step(what, x, m);
+            glance(what, x, m);
         }
+        compare("run " + run, x, m);
         if (!CHECK.allRight()) {
             m.program.forEach(i -> System.out.println(java.util.Arrays.toString(i)));
         }
     }
 
+    private static void step(String what, SlippedStreams x, Model m) {
+        int n = below(3) == 0 ? 1 + below(50) : 1 + below(4);
+        switch (below(12)) {
+            case 0:
+            case 1:
+            case 2:
+            case 3:
+                CHECK.due(what + " address(" + n + ")", x.address(n), m.advance(0, n));
+                break;
+            case 4:
+            case 5:
+            case 6:
+            case 7:
+                CHECK.due(what + " value(" + n + ")", x.value(n), m.advance(1, n));
+                break;
+            case 8:
+            case 9:
+                CHECK.due(what + " both(" + n + ")", x.both(n), m.both(n));
+                break;
+            case 10:
+                CHECK.due(what + " plain(" + n + ")", x.plain(n), m.plain(n));
+                break;
+            default:
+                beginAnew(x, m);
+                break;
+        }
+    }
+
+    /** A look at little, so that many calls can be made of one object: with the step, six calls. */
+    private static void glance(String what, SlippedStreams x, Model m) {
+        m.look(0);
+        m.look(1);
+        CHECK.due(what + " place 0", x.place(0), m.place(0));
+        CHECK.due(what + " place 1", x.place(1), m.place(1));
+        CHECK.due(what + " slip", x.slip(), m.slip());
+        CHECK.due(what + " losses", x.losses(), m.losses);
+        int q = below(5);
+        CHECK.due(what + " queue " + q, x.queue(q), m.queues.get(q).size());
+        callsLeft -= CALLS_OF_A_STEP;
+    }
+
     private static void load(SlippedStreams x, Model m) {
         int size = below(25);
+        int first = firstWord();
         int step = below(10);
-        x.fill(firstWord(), step);
+        x.fill(first, step);
         for (int i = 0; i < 32; i++) {
-            m.filled[i] = x.peek(i, true);
+            m.filled[i] = first + i * step;
         }
         for (int i = 0; i < size; i++) {
             int[] in = instruction(i, size);
@@ -91,6 +116,7 @@ public final class RandomRunsTest {
             m.program.add(in);
         }
         m.begin();
+        callsLeft -= 1 + size;
     }
 
     private static int firstWord() {
@@ -98,7 +124,7 @@ public final class RandomRunsTest {
     }
 
     private static void beginAnew(SlippedStreams x, Model m) {
-        if (below(4) == 0) {
+        if (below(4) == 0 && callsLeft > 40) {
             CHECK.due("clear", x.clear(), m.program.size());
             m.program.clear();
             load(x, m);
@@ -148,13 +174,14 @@ public final class RandomRunsTest {
 
     private static void againstThePlainRun(int run) {
         SlippedStreams x = new SlippedStreams();
-        load(x, new Model());
-        for (int call = 0; call < 100; call++) {
-            x.address(1 + below(6));
-            x.value(1 + below(6));
+        Model m = new Model();
+        load(x, m);
+        for (int turn = 0; turn < 70; turn++) {
+            x.address(1 + below(9));
+            x.value(1 + below(9));
             x.plain(10);
         }
-        int size = sizeOf(x);
+        int size = m.program.size();
         if (x.place(0) != size || x.place(1) != size || x.place(2) != size) {
             return;
         }
@@ -174,13 +201,5 @@ public final class RandomRunsTest {
         for (int q = 0; q <= 5; q++) {
             CHECK.due(what + " queue " + q, x.queue(q), 0);
         }
-    }
-
-    private static int sizeOf(SlippedStreams x) {
-        int size = 0;
-        while (x.streamOf(size) != SlippedStreams.NONE) {
-            size++;
-        }
-        return size;
     }
 }
