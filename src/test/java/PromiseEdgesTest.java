@@ -611,6 +611,10 @@ public final class PromiseEdgesTest extends Edges {
         SlippedStreams value = with(less(0, 0, 0), load(1, 0, 0));
         due("16 the value stream waits", value.value(50), 0);
         due("16 which is no loss", value.losses(), 0);
+        SlippedStreams ended = with(less(1, 1, 0));
+        due("16 the value stream ends", ended.value(50), 1);
+        due("16 it has ended", ended.value(50), 0);
+        due("16 which is none either", ended.losses(), 0);
     }
 
     private static void dueNoLoss(String what, int moves, int[]... instructions) {

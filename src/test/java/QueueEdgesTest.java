@@ -28,6 +28,7 @@ public final class QueueEdgesTest extends Edges {
         theLaterStoreOfOneWordWins();
         theListRoundItsEnd();
         valuesGoToTheListBeforeTheyGoIntoS();
+        onlyStoresOfValuesTakeFromS();
         CHECK.end();
     }
 
@@ -242,7 +243,9 @@ public final class QueueEdgesTest extends Edges {
             for (int i = 0; i < OUTCOMES.length; i++) {
                 due("V " + ahead + " ahead, take " + i, x.value(1), 1);
                 due("V " + ahead + " ahead, goes " + i, x.place(1), 1 + 2 * i + (OUTCOMES[i] ? 2 : 1));
-                x.value(OUTCOMES[i] ? 0 : 1);
+                if (!OUTCOMES[i]) {
+                    x.value(1);
+                }
                 due("V " + ahead + " ahead, put", x.address(1), i + ahead < OUTCOMES.length + 2 ? 1 : 0);
             }
         }
@@ -264,8 +267,10 @@ public final class QueueEdgesTest extends Edges {
                 due("A " + ahead + " ahead", x.queue(A), Math.min(ahead, OUTCOMES.length - i));
                 due("A " + ahead + " ahead, take " + i, x.address(1), 1);
                 due("A " + ahead + " ahead, goes " + i, x.place(0), 1 + 2 * i + (OUTCOMES[i] ? 2 : 1));
-                x.address(OUTCOMES[i] ? 0 : 1);
-                last = OUTCOMES[i] ? last : 50 + i;
+                if (!OUTCOMES[i]) {
+                    x.address(1);
+                    last = 50 + i;
+                }
                 due("A " + ahead + " ahead, r0 behind " + i, x.register(0, false), last);
                 due("A " + ahead + " ahead, put", x.value(1), i + ahead < OUTCOMES.length ? 1 : 0);
             }
@@ -500,5 +505,29 @@ public final class QueueEdgesTest extends Edges {
         for (int i = 1; i <= 4; i++) {
             due("to the list: at last word " + i, x.peek(i, false), 4 + i);
         }
+    }
+
+    /** 'with its value when a is an address register; otherwise with the first value of S ... or without'. */
+    private static void onlyStoresOfValuesTakeFromS() {
+        SlippedStreams x = with(set(0, 9), store(0, 0, 0), set(1, 5), store(1, 0, 1), store(0, 0, 2), store(1, 0, 3),
+                set(1, 6), store(1, 0, 4));
+        due("from S: the value stream ahead", x.value(3), 3);
+        due("from S: two are in it", x.queue(S), 2);
+        due("from S: an address register", x.address(2), 2);
+        due("from S: it took none", x.queue(S), 2);
+        due("from S: its own value", x.peek(9, false), 9);
+        due("from S: a value register", x.address(1), 1);
+        due("from S: it took one", x.queue(S), 1);
+        due("from S: the first one", x.peek(10, false), 5);
+        due("from S: an address register again", x.address(1), 1);
+        due("from S: one is still in it", x.queue(S), 1);
+        due("from S: its own value again", x.peek(11, false), 9);
+        due("from S: the last one", x.address(1), 1);
+        due("from S: it is empty", x.queue(S), 0);
+        due("from S: written", x.peek(12, false), 5);
+        due("from S: a store without", x.address(1), 1);
+        due("from S: it is in the list", x.queue(LIST), 1);
+        due("from S: its value comes later", x.value(50), 2);
+        due("from S: and is written", x.peek(13, false), 6);
     }
 }

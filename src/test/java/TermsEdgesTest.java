@@ -609,6 +609,10 @@ public final class TermsEdgesTest extends Edges {
         for (int bad : new int[] {MIN, -1, 9, MAX}) {
             calls.add(x -> x.add(bad, 0, 0, 0));
         }
+        for (int bad : new int[] {MIN, -1, 11, MAX}) {
+            calls.add(x -> x.streamOf(bad));
+            calls.add(x -> x.queue(bad));
+        }
         return calls;
     }
 
