@@ -25,6 +25,7 @@ public final class PromiseEdgesTest extends Edges {
         placeOfAnyOther();
         placeAndSlipWhereAllHasEnded();
         slipByLoops();
+        slipOfWhatIsJumpedOver();
         queueOfNoSuchNumber();
         registerOfNoSuchNumber();
         registerOfTheStreamThatWritesIt();
@@ -465,6 +466,44 @@ public final class PromiseEdgesTest extends Edges {
         for (int i = 0; i <= 4; i++) {
             due("12 upon itself " + i, self.slip(), i);
             due("12 the next time", self.address(1), i < 4 ? 1 : 0);
+        }
+    }
+
+    /** Two instructions, the second one a branch to c, and then nine LOADs that both streams have a part of. */
+    private static SlippedStreams jump(int[] first, int[] branch) {
+        List<int[]> program = new ArrayList<>(List.of(first, branch));
+        for (int i = 0; i < 8; i++) {
+            program.add(load(3, 0, i));
+        }
+        program.add(load(3, 7, 0));
+        return with(program);
+    }
+
+    /**
+     * 12: 'has left behind it': the instructions that a stream was at; none of those that a branch
+     * jumps over, ahead, to the end or beyond it, and just one for the branch itself.
+     */
+    private static void slipOfWhatIsJumpedOver() {
+        for (int c : new int[] {2, 3, 6, 9, 10, 11, 12, 24}) {
+            int loads = Math.max(0, 11 - c);
+            SlippedStreams x = jump(set(0, 1), differ(0, 7, c));
+            due("12 address jumps to " + c, x.address(2), 2);
+            due("12 address is at " + c, x.place(0), Math.min(c, 11));
+            due("12 two left behind and one, to " + c, x.slip(), 1);
+            due("12 three LOADs behind " + c, x.address(3), Math.min(loads, 3));
+            due("12 these too, behind " + c, x.slip(), 1 + Math.min(loads, 3));
+            due("12 value jumps to " + c, x.value(1), 1);
+            due("12 only these, behind " + c, x.slip(), Math.min(loads, 3));
+            x.both(50);
+            due("12 all ended, behind " + c, x.slip(), 0);
+            SlippedStreams y = jump(set(1, 1), differ(1, 2, c));
+            due("12 value jumps first to " + c, y.value(2), 2);
+            due("12 value is at " + c, y.place(1), Math.min(c, 11));
+            due("12 one left behind and two, to " + c, y.slip(), -1);
+            due("12 address jumps behind it to " + c, y.address(1), 1);
+            due("12 two and two, to " + c, y.slip(), 0);
+            due("12 two LOADs more behind " + c, y.address(2), Math.min(loads, 2));
+            due("12 these again, behind " + c, y.slip(), Math.min(loads, 2));
         }
     }
 
